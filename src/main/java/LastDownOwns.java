@@ -24,7 +24,6 @@ public final class LastDownOwns {
     private final Mountain now = new Mountain();
     private final Rule rule = new Rule();
     private final Rule otherRule = new Rule();
-    private final RuleReader ruleReader = new RuleReader();
     private final Text text = new Text();
     private final Numbers told = new Numbers();
     private final Past past = new Past();
@@ -65,7 +64,7 @@ public final class LastDownOwns {
     }
 
     public int rule() {
-        int wrong = ruleReader.read(text, otherRule);
+        int wrong = otherRule.read(text);
         text.clear();
         if (wrong != Text.FINE) {
             return NONE - wrong;
@@ -374,7 +373,7 @@ public final class LastDownOwns {
     }
 
     public int law() {
-        int wrong = ruleReader.read(text, otherRule);
+        int wrong = otherRule.read(text);
         text.clear();
         return wrong != Text.FINE ? LAW_WRONG - wrong : plans.compareRules(otherRule);
     }
@@ -412,9 +411,9 @@ public final class LastDownOwns {
             case 7:
                 return now.sumOf(now.built);
             case 8:
-                return rumours.howMany();
+                return rumours.size;
             case 9:
-                return sights.howMany();
+                return sights.size;
             case 10:
                 return past.size;
             case 11:
@@ -956,42 +955,31 @@ public final class LastDownOwns {
 
     /** A RULE, its things ahead of what joins them, so that it is worked out without looking back. */
     private static final class Rule {
-        static final int MOST = 40;
+        private static final int MOST = 40;
+        private static final int DEEPEST = 4;
         /** Codes from here on are signs; those below are numbers. */
-        static final int SIGNS = 1000;
-        static final char NEGATE = '~';
+        private static final int SIGNS = 1000;
+        private static final int NEGATE = '~';
         private final int[] codes = new int[MOST];
         private final int[] values = new int[MOST];
         private int size = 0;
+        /** While it is read: signs that join wait here till what binds more is joined. */
+        private final int[] waiting = new int[MOST];
+        private int waitingSize = 0;
+        private int depth = 0;
+        /** While it is read: on which depths a comparison stands already (bits). */
+        private int compared = 0;
+        private boolean wantsThing = true;
+        /** While it is read: digits of the NUMBER that stands last; 0 if something else does. */
+        private int digits = 0;
 
         Rule() {
             beNone();
         }
 
-        void clear() {
-            size = 0;
-        }
-
-        void addNumber(int number) {
-            if (size >= 0 && size < MOST) {
-                codes[size] = number;
-                size++;
-            }
-        }
-
-        void addSign(int sign) {
-            addNumber(SIGNS + sign);
-        }
-
-        void lengthenNumber(int digit) {
-            if (size > 0 && size <= MOST) {
-                codes[size - 1] = codes[size - 1] * 10 + digit;
-            }
-        }
-
         /** As long as nothing is told, one goes 1+p/4. */
-        void beNone() {
-            clear();
+        private void beNone() {
+            size = 0;
             addNumber(1);
             addSign('p');
             addNumber(4);
@@ -1009,29 +997,24 @@ public final class LastDownOwns {
         }
 
         private int valueFor(Mountain mountain, int who) {
-            int depth = 0;
+            int filled = 0;
             for (int i = 0; i < size && i < MOST; i++) {
                 int sign = codes[i] - SIGNS;
                 if (sign < 0 || isLetter(sign)) {
-                    if (depth >= 0 && depth < MOST) {
-                        values[depth] = sign < 0 ? codes[i] : mountain.letter(sign, who);
-                        depth++;
+                    if (filled >= 0 && filled < MOST) {
+                        values[filled] = sign < 0 ? codes[i] : mountain.letter(sign, who);
+                        filled++;
                     }
                 } else if (sign == NEGATE) {
-                    if (depth >= 1 && depth <= MOST) {
-                        values[depth - 1] = -values[depth - 1];
+                    if (filled >= 1 && filled <= MOST) {
+                        values[filled - 1] = -values[filled - 1];
                     }
-                } else if (depth >= 2 && depth <= MOST) {
-                    depth--;
-                    values[depth - 1] = joined(sign, values[depth - 1], values[depth]);
+                } else if (filled >= 2 && filled <= MOST) {
+                    filled--;
+                    values[filled - 1] = joined(sign, values[filled - 1], values[filled]);
                 }
             }
-            return depth > 0 ? values[0] : 0;
-        }
-
-        static boolean isLetter(int sign) {
-            return sign == 'p' || sign == 'h' || sign == 'u' || sign == 'o' || sign == 'k' || sign == 'b'
-                || sign == 'n';
+            return filled > 0 ? values[0] : 0;
         }
 
         private static int joined(int sign, int a, int b) {
@@ -1054,65 +1037,52 @@ public final class LastDownOwns {
                     return 0;
             }
         }
-    }
 
-    /** Reads a RULE sign by sign; signs that join wait till what binds more is joined. */
-    private static final class RuleReader {
-        private static final int DEEPEST = 4;
-        private final int[] waiting = new int[Rule.MOST];
-        private int waits = 0;
-        private int depth = 0;
-        /** On which depths a comparison stands already (bits). */
-        private int compared = 0;
-        private boolean wantsThing = true;
-        /** Digits of the NUMBER that stands last; 0 if something else does. */
-        private int digits = 0;
-
-        /** Where the text goes wrong as a RULE; Text.FINE if it does not, and into is that RULE. */
-        int read(Text text, Rule into) {
-            begin();
+        /** Becomes what the text tells: Text.FINE, or where the text goes wrong; then it is not to be used. */
+        int read(Text text) {
             if (text.size == 0) {
-                into.beNone();
+                beNone();
                 return Text.FINE;
             }
-            into.clear();
-            for (int p = 0; p < text.size && p < Rule.MOST; p++) {
+            beginReading();
+            for (int p = 0; p < text.size && p < MOST; p++) {
                 int sign = text.at(p);
-                if (!(wantsThing ? takesThing(sign, into) : takesBehindThing(sign, into))) {
+                if (!(wantsThing ? takesThing(sign) : takesBehindThing(sign))) {
                     return p;
                 }
             }
-            if (text.size > Rule.MOST) {
-                return Rule.MOST;
+            if (text.size > MOST) {
+                return MOST;
             }
             if (wantsThing || depth > 0) {
                 return text.size;
             }
-            release(into, 1);
+            release(1);
             return Text.FINE;
         }
 
-        private void begin() {
-            waits = 0;
+        private void beginReading() {
+            size = 0;
+            waitingSize = 0;
             depth = 0;
             compared = 0;
             wantsThing = true;
             digits = 0;
         }
 
-        private boolean takesThing(int sign, Rule into) {
+        private boolean takesThing(int sign) {
             if (sign == '-') {
-                hold(Rule.NEGATE);
+                hold(NEGATE);
                 return true;
             }
             if (sign == '(') {
                 return opens();
             }
             if (Text.isDigit(sign)) {
-                into.addNumber(sign - '0');
+                addNumber(sign - '0');
                 digits = 1;
-            } else if (Rule.isLetter(sign)) {
-                into.addSign(sign);
+            } else if (isLetter(sign)) {
+                addSign(sign);
                 digits = 0;
             } else {
                 return false;
@@ -1121,26 +1091,21 @@ public final class LastDownOwns {
             return true;
         }
 
-        private boolean takesBehindThing(int sign, Rule into) {
+        private boolean takesBehindThing(int sign) {
             if (Text.isDigit(sign)) {
-                if (digits < 1 || digits > 2) {
-                    return false;
-                }
-                into.lengthenNumber(sign - '0');
-                digits++;
-                return true;
+                return lengthensNumber(sign - '0');
             }
             if (sign == ')') {
-                return closes(into);
+                return closes();
             }
-            int strength = strength(sign);
+            int strength = strengthOf(sign);
             if (strength < 1 || strength == 1 && (compared >> depth & 1) == 1) {
                 return false;
             }
             if (strength == 1) {
                 compared |= 1 << depth;
             }
-            release(into, strength);
+            release(strength);
             hold(sign);
             wantsThing = true;
             return true;
@@ -1156,36 +1121,56 @@ public final class LastDownOwns {
             return true;
         }
 
-        private boolean closes(Rule into) {
+        private boolean closes() {
             if (depth < 1) {
                 return false;
             }
-            release(into, 1);
-            waits = Math.max(0, waits - 1);
+            release(1);
+            waitingSize = Math.max(0, waitingSize - 1);
             depth--;
             digits = 0;
             return true;
         }
 
+        private boolean lengthensNumber(int digit) {
+            if (digits < 1 || digits > 2 || size < 1 || size > MOST) {
+                return false;
+            }
+            codes[size - 1] = codes[size - 1] * 10 + digit;
+            digits++;
+            return true;
+        }
+
+        private void addNumber(int number) {
+            if (size >= 0 && size < MOST) {
+                codes[size] = number;
+                size++;
+            }
+        }
+
+        private void addSign(int sign) {
+            addNumber(SIGNS + sign);
+        }
+
         private void hold(int sign) {
-            if (waits >= 0 && waits < waiting.length) {
-                waiting[waits] = sign;
-                waits++;
+            if (waitingSize >= 0 && waitingSize < MOST) {
+                waiting[waitingSize] = sign;
+                waitingSize++;
             }
         }
 
         /** Joins what waits and binds at least so much, back to the last open bracket. */
-        private void release(Rule into, int strength) {
-            for (int i = waits - 1; i >= 0 && i < waiting.length; i--) {
-                if (strength(waiting[i]) < strength) {
+        private void release(int strength) {
+            for (int i = waitingSize - 1; i >= 0 && i < MOST; i--) {
+                if (strengthOf(waiting[i]) < strength) {
                     return;
                 }
-                into.addSign(waiting[i]);
-                waits = i;
+                addSign(waiting[i]);
+                waitingSize = i;
             }
         }
 
-        private static int strength(int sign) {
+        private static int strengthOf(int sign) {
             switch (sign) {
                 case '<':
                 case '>':
@@ -1197,11 +1182,16 @@ public final class LastDownOwns {
                 case '*':
                 case '/':
                     return 3;
-                case Rule.NEGATE:
+                case NEGATE:
                     return 4;
                 default:
                     return 0;
             }
+        }
+
+        private static boolean isLetter(int sign) {
+            return sign == 'p' || sign == 'h' || sign == 'u' || sign == 'o' || sign == 'k' || sign == 'b'
+                || sign == 'n';
         }
     }
 
@@ -1717,43 +1707,6 @@ public final class LastDownOwns {
         }
     }
 
-    /** Pairs of numbers, told one behind the other. */
-    private static final class Pairs {
-        private final int[] firsts;
-        private final int[] seconds;
-        int size = 0;
-
-        Pairs(int most) {
-            int room = Math.max(0, most);
-            firsts = new int[room];
-            seconds = new int[room];
-        }
-
-        int add(int first, int second) {
-            if (size < 0 || size >= firsts.length || size >= seconds.length) {
-                return NONE;
-            }
-            firsts[size] = first;
-            seconds[size] = second;
-            size++;
-            return size;
-        }
-
-        int drop() {
-            int were = size;
-            size = 0;
-            return were;
-        }
-
-        int first(int i) {
-            return i >= 0 && i < firsts.length ? firsts[i] : 0;
-        }
-
-        int second(int i) {
-            return i >= 0 && i < seconds.length ? seconds[i] : 0;
-        }
-    }
-
     /** What was heard of one, and who it may be. */
     private static final class Rumours {
         private static final int MOST = 12;
@@ -1762,26 +1715,28 @@ public final class LastDownOwns {
         private static final int[] MOST_OF = {9, 99, 2, 9, 1};
         private final Mountain now;
         private final Numbers told;
-        private final Pairs pairs = new Pairs(MOST);
+        /** 100 times what, and v. */
+        private final int[] heard = new int[MOST];
+        int size = 0;
 
         Rumours(Mountain now, Numbers told) {
             this.now = now;
             this.told = told;
         }
 
-        int howMany() {
-            return pairs.size;
-        }
-
         int hear(int what, int v) {
-            if (outside(what, 0, KINDS - 1) || outside(v, 0, mostOf(what))) {
+            if (outside(what, 0, KINDS - 1) || outside(v, 0, mostOf(what)) || outside(size, 0, MOST - 1)) {
                 return NONE;
             }
-            return pairs.add(what, v);
+            heard[size] = 100 * what + v;
+            size++;
+            return size;
         }
 
         int drop() {
-            return pairs.drop();
+            int were = size;
+            size = 0;
+            return were;
         }
 
         int fitting() {
@@ -1818,9 +1773,9 @@ public final class LastDownOwns {
 
         private int fittingBits() {
             int bits = now.allBits();
-            for (int k = 0; k < pairs.size; k++) {
+            for (int k = 0; k < size && k < MOST; k++) {
                 for (int i = 0; i < MOST_CLIMBERS; i++) {
-                    if (!isSo(i, pairs.first(k), pairs.second(k))) {
+                    if (!isSo(i, heard[k] / 100, heard[k] % 100)) {
                         bits &= ~(1 << i);
                     }
                 }
@@ -1866,7 +1821,9 @@ public final class LastDownOwns {
         private static final int MOST_B = 5;
         private static final int MOST_C = 3;
         private final Numbers told;
-        private final Pairs pairs = new Pairs(MOST);
+        /** 10 times PACE, and STEPS. */
+        private final int[] seen = new int[MOST];
+        int size = 0;
         /** By PACE and STEPS how many fitting laws go so. */
         private final int[] lawsBy = new int[(MOST_PACE + 1) * (MOST_STEPS + 1)];
         private int fitting = 0;
@@ -1878,19 +1835,19 @@ public final class LastDownOwns {
             this.told = told;
         }
 
-        int howMany() {
-            return pairs.size;
-        }
-
         int see(int p, int s) {
-            if (outside(p, 0, MOST_PACE) || outside(s, 0, MOST_STEPS)) {
+            if (outside(p, 0, MOST_PACE) || outside(s, 0, MOST_STEPS) || outside(size, 0, MOST - 1)) {
                 return NONE;
             }
-            return pairs.add(p, s);
+            seen[size] = 10 * p + s;
+            size++;
+            return size;
         }
 
         int drop() {
-            return pairs.drop();
+            int were = size;
+            size = 0;
+            return were;
         }
 
         int fittingLaws() {
@@ -1964,8 +1921,8 @@ public final class LastDownOwns {
         }
 
         private boolean lawFits(int a, int b, int c) {
-            for (int k = 0; k < pairs.size; k++) {
-                if (stepsBy(a, b, c, pairs.first(k)) != pairs.second(k)) {
+            for (int k = 0; k < size && k < MOST; k++) {
+                if (stepsBy(a, b, c, seen[k] / 10) != seen[k] % 10) {
                     return false;
                 }
             }
