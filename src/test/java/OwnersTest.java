@@ -74,6 +74,11 @@ public final class OwnersTest {
         Run r = four("20 empty");
         r.question("empty()", 6).row(3).due("backs(0)", 2).question("empty()", 6).row(3).due("hours(6)", 3);
         r.question("empty()", 0).row(3).due("starts(1)", 1).text("0").due("rule()", 0).still("empty()", -2);
+        Run e = fast("20 the last of 100", "9").due("starts(0)", 1);
+        for (int i = 0; i < 10; i++) {
+            e.due("waits(0, 9)", 9 * (i + 1));
+        }
+        e.due("waits(0, 5)", 95).question("empty()", 99).row(0).due("waits(0, 1)", 96).still("empty()", -2);
         new Run("20 nobody").question("empty()", 0).row(7);
     }
 
@@ -102,6 +107,8 @@ public final class OwnersTest {
         Run m = fast("23 they meet", "0;4").due("crowd(5)", 0).row().due("starts(0)", 1).due("hours(1)", 7);
         m.due("starts(1)", 2).question("crowd(0)", 1).row(0, 0).question("crowd(1)", 2).row(2, 1);
         m.question("crowd(99)", 2).row(2, 1);
+        Run h = fast("23 at 9", "9;9").due("top(9)", 15).due("starts(0)", 1).due("hours(3)", 7).due("waits(0, 5)", 5);
+        h.question("crowd(5)", 1).row(9, 0).due("starts(1)", 2).question("crowd(5)", 2).row(9, 3);
         new Run("23 nobody").question("crowd(99)", 0).row();
     }
 
@@ -162,6 +169,8 @@ public final class OwnersTest {
         r.question("goes(10)", 0).row(7).question("goes(3)", 0).row(0).due("starts(0)", 1);
         r.question("goes(10)", 2).row(7).due("starts(2)", 2).question("goes(10)", 1).row(5);
         r.still("goes(0)", -1).still("goes(61)", -1).due("starts(1)", 3).still("goes(10)", -2).still("goes(61)", -1);
+        Run w = fast("29 who waits", "9;9").due("waits(0, 2)", 2).question("goes(10)", 1).row(7);
+        w.due("waits(1, 3)", 3).question("goes(10)", 0).row(5);
         new Run("29 nobody").still("goes(1)", -2).still("goes(61)", -1);
     }
 

@@ -96,6 +96,9 @@ public final class WhoTest {
         // Left are a 1, c 2, b 1 .. 5, and a 1, c 3, b 3 .. 5: PACE 3 goes 2 by four of them, 1 by the others.
         r.due("laws()", 8).question("looks()", 3).row(4).due("denies()", 2);
         r.due("saw(0, 0)", 1).due("saw(4, 1)", 2).due("laws()", 8).due("saw(4, 2)", 3).still("looks()", -2);
+        r.due("denies()", 3).question("looks()", 8).row(22).due("saw(1, 0)", 1).due("saw(3, 1)", 2).question("looks()", 9);
+        r.row(2).due("denies()", 2).due("saw(0, 0)", 1).due("saw(1, 1)", 2).due("saw(9, 3)", 3).question("laws()", 1);
+        r.row(0, 1, 3).question("looks()", 0).row(1);
         r.due("denies()", 3).due("saw(0, 3)", 1).due("laws()", 5).row(3, 1, 3).question("looks()", 0).row(5);
     }
 }
