@@ -157,13 +157,17 @@ public final class LastDownOwns {
             return NONE - wrong;
         }
         past.note(now);
-        int done = actsDone();
-        int acts = text.acts();
+        int done = 0;
+        boolean stopped = false;
+        for (int p = 0; p < text.size && !stopped; p += Text.signsOfAct(text.at(p))) {
+            stopped = actAt(p) < 0;
+            done += stopped ? 0 : 1;
+        }
         text.clear();
         if (done > 0) {
             past.keepNoted();
         }
-        told.tellTwo(done < acts ? 1 : 0, now.hour);
+        told.tellTwo(stopped ? 1 : 0, now.hour);
         return done;
     }
 
@@ -176,17 +180,6 @@ public final class LastDownOwns {
             past.keepNoted();
         }
         return answer;
-    }
-
-    private int actsDone() {
-        int done = 0;
-        for (int p = 0; p < text.size; p += Text.signsOfAct(text.at(p))) {
-            if (actAt(p) < 0) {
-                return done;
-            }
-            done++;
-        }
-        return done;
     }
 
     private int actAt(int p) {
@@ -572,14 +565,6 @@ public final class LastDownOwns {
         static int signsOfAct(int sign) {
             return sign == 'w' || sign == 'f' ? 3 : 2;
         }
-
-        int acts() {
-            int n = 0;
-            for (int p = 0; p < size; p += signsOfAct(at(p))) {
-                n++;
-            }
-            return n;
-        }
     }
 
     /** THE MOUNTAIN with its CLIMBERS, and what can be done there. */
@@ -771,9 +756,9 @@ public final class LastDownOwns {
                 case 'o':
                     return owner == who ? 1 : 0;
                 case 'k':
-                    return othersBeside(who);
+                    return othersAt(height[who], who);
                 case 'b':
-                    return othersBelow(who);
+                    return othersDownBelow(height[who], who);
                 case 'n':
                     return hour % 7;
                 default:
@@ -781,20 +766,20 @@ public final class LastDownOwns {
             }
         }
 
-        private int othersBeside(int who) {
+        private int othersAt(int h, int who) {
             int n = 0;
             for (int i = 0; i < MOST_CLIMBERS && i < size; i++) {
-                if (i != who && way[i] != NO_WAY && has(who) && height[i] == height[who]) {
+                if (i != who && way[i] != NO_WAY && height[i] == h) {
                     n++;
                 }
             }
             return n;
         }
 
-        private int othersBelow(int who) {
+        private int othersDownBelow(int h, int who) {
             int n = 0;
             for (int i = 0; i < MOST_CLIMBERS && i < size; i++) {
-                if (i != who && way[i] == DOWN && has(who) && height[i] < height[who]) {
+                if (i != who && way[i] == DOWN && height[i] < h) {
                     n++;
                 }
             }
@@ -993,10 +978,6 @@ public final class LastDownOwns {
         }
 
         int stepsOf(Mountain mountain, int who) {
-            return within(valueFor(mountain, who), 0, MOST_STEPS);
-        }
-
-        private int valueFor(Mountain mountain, int who) {
             int filled = 0;
             for (int i = 0; i < size && i < MOST; i++) {
                 int sign = codes[i] - SIGNS;
@@ -1014,7 +995,7 @@ public final class LastDownOwns {
                     values[filled - 1] = joined(sign, values[filled - 1], values[filled]);
                 }
             }
-            return filled > 0 ? values[0] : 0;
+            return filled > 0 ? within(values[0], 0, MOST_STEPS) : 0;
         }
 
         private static int joined(int sign, int a, int b) {
@@ -1462,7 +1443,11 @@ public final class LastDownOwns {
             int others = now.bitsOnWay() & ~(1 << who);
             for (int many = 0; many < MOST_CLIMBERS; many++) {
                 for (int set = 0; set <= others; set++) {
-                    if ((set & ~others) == 0 && Integer.bitCount(set) == many && ownsIfTheyStay(who, n, set)) {
+                    if ((set & ~others) != 0 || Integer.bitCount(set) != many) {
+                        continue;
+                    }
+                    letStay(set);
+                    if (ownerIn(n) == who) {
                         told.tellOne(set);
                         return many;
                     }
@@ -1471,12 +1456,11 @@ public final class LastDownOwns {
             return NOT_SO;
         }
 
-        private boolean ownsIfTheyStay(int who, int n, int set) {
+        private void letStay(int set) {
             ahead.copyFrom(now);
             for (int i = 0; i < MOST_CLIMBERS; i++) {
                 ahead.wait[i] += (set >> i & 1) == 1 ? STAY : 0;
             }
-            return ownerIn(n) == who;
         }
 
         int bestToSetOut(int n) {
@@ -1504,7 +1488,11 @@ public final class LastDownOwns {
             int free = now.allBits() & ~now.bitsOnWay();
             for (int many = 0; many <= MOST_CLIMBERS; many++) {
                 for (int set = 0; set <= free; set++) {
-                    if ((set & ~free) == 0 && Integer.bitCount(set) == many && !ownsIfTheySetOut(who, n, set)) {
+                    if ((set & ~free) != 0 || Integer.bitCount(set) != many) {
+                        continue;
+                    }
+                    letSetOut(set);
+                    if (ownerIn(n) != who) {
                         told.tellOne(set);
                         return many;
                     }
@@ -1513,14 +1501,13 @@ public final class LastDownOwns {
             return NOT_SO;
         }
 
-        private boolean ownsIfTheySetOut(int who, int n, int set) {
+        private void letSetOut(int set) {
             ahead.copyFrom(now);
             for (int i = 0; i < MOST_CLIMBERS; i++) {
                 if ((set >> i & 1) == 1) {
                     ahead.setOut(i);
                 }
             }
-            return ownerIn(n) == who;
         }
 
         int compareRules(Rule other) {
