@@ -944,7 +944,8 @@ public final class LastDownOwns {
         private static final int DEEPEST = 4;
         /** Codes from here on are signs; those below are numbers. */
         private static final int SIGNS = 1000;
-        private static final int NEGATE = '~';
+        /** The - ahead of a thing; above 255, so that no sign of a text can be taken for it. */
+        private static final int NEGATE = 256;
         private final int[] codes = new int[MOST];
         private final int[] values = new int[MOST];
         private int size = 0;

@@ -5,8 +5,10 @@ public final class ClimbersTest {
         sign();
         end();
         climbers();
+        climbersEverySign();
         climbersRoom();
         ruleWrong();
+        ruleEverySign();
         ruleLimits();
         ruleWorth();
         ruleLetters();
@@ -66,6 +68,17 @@ public final class ClimbersTest {
         r.emptied("climbers()", 0);
     }
 
+    /** Each of the 256 signs, where a digit is due and where a ; is. */
+    private static void climbersEverySign() {
+        for (int c = 0; c < 256; c++) {
+            boolean digit = "0123456789".indexOf(c) >= 0;
+            Run r = new Run("4 sign " + c);
+            r.text((char) c + "x").emptied("climbers()", digit ? -2 : -1);
+            r.text("1" + (char) c + "x").emptied("climbers()", c == ';' ? -3 : -2);
+            r.text("1;" + (char) c + "x").emptied("climbers()", digit ? -4 : -3);
+        }
+    }
+
     private static void climbersRoom() {
         Run r = new Run("4 room");
         r.text("9;0;9;0").due("climbers()", 4);
@@ -95,6 +108,24 @@ public final class ClimbersTest {
             }
         }
         r.due("climber(0, 5)", 3);
+    }
+
+    /** Each of the 256 signs, ahead of a thing and behind each kind of thing; none may stand for a sign held inside. */
+    private static void ruleEverySign() {
+        String[] ahead = {"", "-", "(", "p+", "p<", "23*", "23", "p", "(p)", "(p", "1<2", "(1<2", "999"};
+        String thing = "-(0123456789phuokbn";
+        String join = "+-*/";
+        String[] can = {thing, thing, thing, thing, thing, thing, join + "<>=0123456789", join + "<>=", join + "<>=",
+            join + "<>=)", join + "0123456789", join + "0123456789)", join + "<>="};
+        for (int c = 0; c < 256; c++) {
+            Run r = new Run("5 sign " + c);
+            for (int i = 0; i < ahead.length; i++) {
+                // No RULE has the sign 161: behind a sign that can stand there it is the wrong one.
+                String text = ahead[i] + (char) c + (char) 161;
+                int due = -1 - ahead[i].length() - (can[i].indexOf(c) >= 0 ? 1 : 0);
+                r.text(text).emptied("rule()", due).text(text).emptied("law()", -9999 + due);
+            }
+        }
     }
 
     private static void ruleLimits() {

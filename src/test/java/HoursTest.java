@@ -9,6 +9,7 @@ public final class HoursTest {
         waits();
         slips();
         dayWrong();
+        dayEverySign();
         dayDone();
         dayLimit();
         undo();
@@ -92,6 +93,21 @@ public final class HoursTest {
         long[] due = {-1, -2, -2, -3, -2, -2, -4, -2, -3, -3, -3, -4, -3, -3, -4, -2, -2, -3, -1, -3, -1};
         for (int i = 0; i < texts.length; i++) {
             r.text(texts[i]).emptied("day()", due[i]);
+        }
+    }
+
+    /** Each of the 256 signs, where an ACT begins and in each place inside one. */
+    private static void dayEverySign() {
+        String[] ahead = {"", "n", "s", "b", "w", "f", "t", "w0", "f0", "n1", "w01"};
+        String begin = "nsbwft";
+        String digit = "0123456789";
+        String[] can = {begin, digit, digit, digit, digit, digit, digit, "123456789", "123456789", begin, begin};
+        for (int c = 0; c < 256; c++) {
+            Run r = new Run("14 sign " + c);
+            for (int i = 0; i < ahead.length; i++) {
+                int due = -1 - ahead[i].length() - (can[i].indexOf(c) >= 0 ? 1 : 0);
+                r.text(ahead[i] + (char) c + (char) 161).emptied("day()", due);
+            }
         }
     }
 

@@ -146,7 +146,9 @@ public final class RandomRunsTest {
 
     private String spoiled(StringBuilder s, String signs) {
         if (s.length() > 0 && random.nextInt(8) == 0) {
-            s.setCharAt(random.nextInt(s.length()), signs.charAt(random.nextInt(signs.length())));
+            boolean anySign = random.nextInt(3) == 0;
+            char sign = anySign ? (char) random.nextInt(256) : signs.charAt(random.nextInt(signs.length()));
+            s.setCharAt(random.nextInt(s.length()), sign);
         }
         if (random.nextInt(8) == 0) {
             s.setLength(random.nextInt(s.length() + 1));
