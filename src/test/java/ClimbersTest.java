@@ -73,9 +73,9 @@ public final class ClimbersTest {
         for (int c = 0; c < 256; c++) {
             boolean digit = "0123456789".indexOf(c) >= 0;
             Run r = new Run("4 sign " + c);
-            r.text((char) c + "x").emptied("climbers()", digit ? -2 : -1);
-            r.text("1" + (char) c + "x").emptied("climbers()", c == ';' ? -3 : -2);
-            r.text("1;" + (char) c + "x").emptied("climbers()", digit ? -4 : -3);
+            r.text((char) c + "x").due("climbers()", digit ? -2 : -1);
+            r.text("1" + (char) c + "x").due("climbers()", c == ';' ? -3 : -2);
+            r.text("1;" + (char) c + "x").due("climbers()", digit ? -4 : -3).asNew();
         }
     }
 
@@ -123,8 +123,9 @@ public final class ClimbersTest {
                 // No RULE has the sign 161: behind a sign that can stand there it is the wrong one.
                 String text = ahead[i] + (char) c + (char) 161;
                 int due = -1 - ahead[i].length() - (can[i].indexOf(c) >= 0 ? 1 : 0);
-                r.text(text).emptied("rule()", due).text(text).emptied("law()", -9999 + due);
+                r.text(text).due("rule()", due).text(text).due("law()", -9999 + due);
             }
+            r.asNew();
         }
     }
 

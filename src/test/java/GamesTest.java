@@ -25,7 +25,8 @@ public final class GamesTest {
 
     private static void bend() {
         Run r = new Run("46 bend");
-        for (int a = 1; a <= 20; a += 3) {
+        for (int a = 1; a <= 20; a++) {
+            r = new Run("46 bend of " + a);
             for (int b = 1; b <= 20; b += 1) {
                 // The farther one wins: he goes 1 each time, and stays where the other one went 2.
                 r.question("bend(" + a + ", " + b + ")", a > b ? 1 : 0);
@@ -51,15 +52,15 @@ public final class GamesTest {
         Run r = new Run("48 law");
         r.text("4;0;8").due("climbers()", 3).due("starts(0)", 1).due("starts(2)", 2).due("starts(1)", 3);
         // By THE RULE: 2 behind 4, 0 behind 6, 1 behind 10 HOURS.
-        r.text("").question("law()", 0).row(3, 3, 1, 1).text("0").question("law()", -3).row(0, 3, 7, 1);
-        r.text("3").question("law()", 0).row(3, 3, 2, 1).text("p/4").question("law()", -1).row(2, 3, 0, 1);
+        r.text("").read("law()", 0).row(3, 3, 1, 1).text("0").read("law()", -3).row(0, 3, 7, 1);
+        r.text("3").read("law()", 0).row(3, 3, 2, 1).text("p/4").read("law()", -1).row(2, 3, 0, 1);
         r.text("x").emptied("law()", -10000).text("p+").emptied("law()", -10002).text("p)").emptied("law()", -10001);
-        r.text("0").due("rule()", 0).text("3").question("law()", 3).row(3, 0, 2, 7).due("climber(2, 5)", 0);
+        r.text("0").due("rule()", 0).text("3").read("law()", 3).row(3, 0, 2, 7).due("climber(2, 5)", 0);
         r.text("0").due("law()", 0).row(0, 0, 7, 7).due("count(12)", 0).due("count(10)", 3);
         Run n = new Run("48 20 HOURS").text("0").due("climbers()", 1).due("starts(0)", 1).due("waits(0, 9)", 9);
-        n.text("1").question("law()", 0).row(1, 1, 0, 0).due("waits(0, 1)", 10).text("1").question("law()", 0);
-        n.row(1, 1, 0, 0).due("waits(0, 1)", 11).text("1").question("law()", 0).row(0, 0, 7, 7);
-        new Run("48 nobody").question("law()", 0).row(0, 0, 7, 7);
+        n.text("1").read("law()", 0).row(1, 1, 0, 0).due("waits(0, 1)", 10).text("1").read("law()", 0);
+        n.row(1, 1, 0, 0).due("waits(0, 1)", 11).text("1").read("law()", 0).row(0, 0, 7, 7);
+        new Run("48 nobody").read("law()", 0).row(0, 0, 7, 7);
     }
 
     private static void years() {

@@ -106,8 +106,9 @@ public final class HoursTest {
             Run r = new Run("14 sign " + c);
             for (int i = 0; i < ahead.length; i++) {
                 int due = -1 - ahead[i].length() - (can[i].indexOf(c) >= 0 ? 1 : 0);
-                r.text(ahead[i] + (char) c + (char) 161).emptied("day()", due);
+                r.text(ahead[i] + (char) c + (char) 161).due("day()", due);
             }
+            r.asNew();
         }
     }
 

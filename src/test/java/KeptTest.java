@@ -11,7 +11,7 @@ public final class KeptTest {
 
     private static void keep() {
         Run r = new Run("50 keep");
-        r.still("keep(2)", 0).still("keep(-1)", 0).still("keep(0)", 1).still("keep(1)", 1).still("again(2)", 0);
+        r.still("keep(2)", 0).still("keep(-1)", 0).due("keep(0)", 1).due("keep(1)", 1).still("again(2)", 0);
         r.still("again(-1)", 0);
     }
 

@@ -1,13 +1,24 @@
 import java.lang.reflect.InvocationTargetException;
 import java.lang.reflect.Method;
+import java.util.ArrayList;
+import java.util.Arrays;
+import java.util.HashMap;
+import java.util.List;
+import java.util.Map;
 import java.util.NoSuchElementException;
 
 /** A run of calls on a new object, each with the answer that is due. Calls are written as texts: "later(4)". */
 final class Run {
+    /** What later calls answer is free, so no object of a run is asked more. */
+    private static final int MOST_CALLS = 512;
+    private static final Map<String, Method> METHODS = new HashMap<>();
     private static int wrong = 0;
     private static int asked = 0;
     private final String name;
     private final LastDownOwns x = new LastDownOwns();
+    private int used = 0;
+    /** The calls that may have changed something. */
+    private final List<String> calls = new ArrayList<>();
 
     Run(String name) {
         this.name = name;
@@ -15,18 +26,33 @@ final class Run {
 
     /** THE TEXT becomes s. */
     Run text(String s) {
-        x.end(0);
+        answer("end(0)");
         for (int p = 0; p < s.length(); p += 4) {
             int v = 0;
             for (int i = 0; i < 4; i++) {
                 v = v << 8 | (p + i < s.length() ? s.charAt(p + i) & 255 : 0);
             }
-            x.sign(v);
+            answer("sign(" + v + ")");
         }
-        if (!x.end(s.length())) {
+        if (!answer("end(" + s.length() + ")").equals("1")) {
             blame("text " + s, "false", "true");
         }
         return this;
+    }
+
+    /** CLIMBERS of these PACES come. */
+    Run come(String paces) {
+        return text(paces).due("climbers()", (paces.length() + 1) / 2);
+    }
+
+    /** THE RULE becomes s. */
+    Run by(String s) {
+        return text(s).due("rule()", 0);
+    }
+
+    /** A DAY is lived, of which so many ACTS are done. */
+    Run live(String s, int done) {
+        return text(s).due("day()", done);
     }
 
     Run due(String call, long want) {
@@ -56,59 +82,139 @@ final class Run {
         return none("row(" + want.length + ")").none("row(-1)");
     }
 
-    /** The call answers so and changes nothing that can be seen; the ROW stays. */
+    /** The call answers so and nothing at all is seen of it afterwards. */
     Run still(String call, long want) {
-        String before = state(true);
+        String before = state(calls, true);
         due(call, want);
         return same(call, before, true);
     }
 
-    /** The call answers so and changes nothing but the ROW. */
+    /** Likewise, of a call that throws. */
+    Run stillNone(String call) {
+        String before = state(calls, true);
+        none(call);
+        return same(call, before, true);
+    }
+
+    /** The call answers so and nothing but the ROW is another. */
     Run question(String call, long want) {
-        String before = state(false);
+        String before = state(calls, false);
         due(call, want);
         return same(call, before, false);
     }
 
-    /** The call reads THE TEXT, answers so, and changes nothing but that THE TEXT is empty then. */
+    /** The call reads THE TEXT and answers so; nothing but that THE TEXT is empty then is seen of it. */
     Run emptied(String call, long want) {
-        x.end(x.count(12));
-        String before = state(true);
-        due(call, want).due("count(12)", 0);
+        List<String> withoutText = new ArrayList<>(calls);
+        withoutText.add("end(0)");
+        String before = state(withoutText, true);
+        due(call, want);
         return same(call, before, true);
     }
 
+    /** The call reads THE TEXT and answers so; nothing but THE TEXT, which is empty then, and the ROW is another. */
+    Run read(String call, long want) {
+        List<String> withoutText = new ArrayList<>(calls);
+        withoutText.add("end(0)");
+        String before = state(withoutText, false);
+        due(call, want);
+        return same(call, before, false);
+    }
+
+    /** Nothing is seen of all calls so far. */
+    Run asNew() {
+        return same("all of it", state(new ArrayList<>(), true), true);
+    }
+
     private Run same(String call, String before, boolean withRow) {
-        String after = state(withRow);
+        String after = state(calls, withRow);
         if (!after.equals(before)) {
             blame("state behind " + call, after, before);
         }
         return this;
     }
 
-    private String state(boolean withRow) {
-        StringBuilder s = new StringBuilder();
-        for (int what = 0; what < 16; what++) {
-            if (what != 12 && (withRow || what != 11)) {
-                s.append(x.count(what)).append(' ');
-            }
+    /** All that can be seen behind a run of calls: each look is taken on a new object, as some looks change it. */
+    private String state(List<String> run, boolean withRow) {
+        Look look = new Look(run);
+        look.all(withRow);
+        look.asks("later(99)", "order(99)", "fits()", "laws()");
+        for (int i = 0; i <= 12; i++) {
+            look.asks("undo()", "count(1)", "count(2)", "count(3)", "count(4)", "count(5)", "count(6)", "count(7)",
+                "count(13)");
         }
-        for (int i = 0; i < x.count(0); i++) {
-            s.append('|');
-            for (int what = 0; what < 6; what++) {
-                s.append(x.climber(i, what)).append(' ');
-            }
-        }
-        s.append('#');
-        for (int i = 0; withRow && i < x.count(11); i++) {
-            s.append(x.row(i)).append(' ');
+        StringBuilder s = new StringBuilder(look.seen());
+        String[] looks = {"again(0)", "again(1)", "climbers()", "rule()", "day()"};
+        for (String call : looks) {
+            Look other = new Look(run);
+            other.asks(call);
+            other.all(withRow);
+            s.append(" / ").append(other.seen());
         }
         return s.toString();
     }
 
+    /** What is seen on an object behind a run of calls. */
+    private final class Look {
+        private final LastDownOwns seen = new LastDownOwns();
+        private final StringBuilder s = new StringBuilder();
+        private int many;
+
+        Look(List<String> run) {
+            for (String call : run) {
+                ask(call);
+            }
+        }
+
+        private String ask(String call) {
+            many++;
+            return answerTo(seen, call);
+        }
+
+        void asks(String... all) {
+            for (String call : all) {
+                s.append(ask(call)).append(' ');
+            }
+        }
+
+        void all(boolean withRow) {
+            for (int what = 0; what < 16; what++) {
+                if (withRow || what != 11) {
+                    asks("count(" + what + ")");
+                }
+            }
+            for (int i = 0; i < 7; i++) {
+                for (int what = 0; what < 6; what++) {
+                    asks("climber(" + i + ", " + what + ")");
+                }
+            }
+            for (int i = 0; withRow && i < 13; i++) {
+                asks("row(" + i + ")");
+            }
+        }
+
+        String seen() {
+            if (many > MOST_CALLS) {
+                blame("a look", many + " calls", "512 at most");
+            }
+            return s.toString();
+        }
+    }
+
     private String answer(String call) {
+        used++;
+        if (used == MOST_CALLS + 1) {
+            blame(call, "more than 512 calls", "512 at most");
+        }
+        if (!call.startsWith("count") && !call.startsWith("row(") && !call.startsWith("climber(")) {
+            calls.add(call);
+        }
+        return answerTo(x, call);
+    }
+
+    private static String answerTo(LastDownOwns on, String call) {
         try {
-            return answerOf(x, call);
+            return answerOf(on, call);
         } catch (NoSuchElementException e) {
             return "throws";
         }
@@ -120,15 +226,11 @@ final class Run {
         String inside = call.substring(open + 1, call.length() - 1).trim();
         String[] parts = inside.isEmpty() ? new String[0] : inside.split(",");
         Object[] args = new Object[parts.length];
-        Class<?>[] types = new Class<?>[parts.length];
         for (int i = 0; i < parts.length; i++) {
             args[i] = Integer.parseInt(parts[i].trim());
-            types[i] = int.class;
         }
         try {
-            Method m = x.getClass().getDeclaredMethod(call.substring(0, open), types);
-            m.setAccessible(true);
-            Object got = m.invoke(x, args);
+            Object got = method(x, call.substring(0, open), parts.length).invoke(x, args);
             return got instanceof Boolean b ? (b ? "1" : "0") : String.valueOf(got);
         } catch (InvocationTargetException e) {
             if (e.getCause() instanceof NoSuchElementException n && n.getClass() == NoSuchElementException.class) {
@@ -138,6 +240,19 @@ final class Run {
         } catch (ReflectiveOperationException e) {
             return "no such call: " + e;
         }
+    }
+
+    private static Method method(Object x, String called, int numbers) throws NoSuchMethodException {
+        String key = x.getClass().getName() + " " + called + " " + numbers;
+        Method m = METHODS.get(key);
+        if (m == null) {
+            Class<?>[] types = new Class<?>[numbers];
+            Arrays.fill(types, int.class);
+            m = x.getClass().getDeclaredMethod(called, types);
+            m.setAccessible(true);
+            METHODS.put(key, m);
+        }
+        return m;
     }
 
     private void blame(String call, String got, String want) {
