@@ -28,16 +28,37 @@ final class Run {
     Run text(String s) {
         answer("end(0)");
         for (int p = 0; p < s.length(); p += 4) {
-            int v = 0;
-            for (int i = 0; i < 4; i++) {
-                v = v << 8 | (p + i < s.length() ? s.charAt(p + i) & 255 : 0);
-            }
-            answer("sign(" + v + ")");
+            answer("sign(" + fourSigns(s, p) + ")");
         }
         if (!answer("end(" + s.length() + ")").equals("1")) {
             blame("text " + s, "false", "true");
         }
         return this;
+    }
+
+    private static int fourSigns(String s, int p) {
+        int v = 0;
+        for (int i = 0; i < 4; i++) {
+            v = v << 8 | (p + i < s.length() ? s.charAt(p + i) & 255 : 0);
+        }
+        return v;
+    }
+
+    /** THE TEXT of an object that is no run becomes s. */
+    static void textTo(LastDownOwns on, String s) {
+        on.end(0);
+        for (int p = 0; p < s.length(); p += 4) {
+            on.sign(fourSigns(s, p));
+        }
+        on.end(s.length());
+    }
+
+    /** Likewise, an answer of such an object. */
+    static void equal(String name, long got, long want) {
+        asked++;
+        if (got != want) {
+            new Run(name).blame("it", String.valueOf(got), String.valueOf(want));
+        }
     }
 
     /** CLIMBERS of these PACES come. */
@@ -119,6 +140,16 @@ final class Run {
         String before = state(withoutText, false);
         due(call, want);
         return same(call, before, false);
+    }
+
+    /** The call answers so; behind undo(), which tells how many are left, nothing but THE TEXT and the ROW is another. */
+    Run undone(String call, long want, int left) {
+        List<String> withoutText = new ArrayList<>(calls);
+        withoutText.add("end(0)");
+        String before = state(withoutText, false);
+        due(call, want).due("count(10)", left + 1).due("undo()", left);
+        answer("end(0)");
+        return same(call + ", undo()", before, false);
     }
 
     /** Nothing is seen of all calls so far. */
