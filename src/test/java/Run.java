@@ -124,6 +124,17 @@ final class Run {
         return same(call, before, false);
     }
 
+    /** The call is not refused, and nothing but the ROW is another. */
+    Run asks(String call) {
+        asked++;
+        String before = state(calls, false);
+        String got = answer(call);
+        if (got.equals("-1") || got.startsWith("throws")) {
+            blame(call, got, "not refused");
+        }
+        return same(call, before, false);
+    }
+
     /** The call reads THE TEXT and answers so; nothing but that THE TEXT is empty then is seen of it. */
     Run emptied(String call, long want) {
         List<String> withoutText = new ArrayList<>(calls);
