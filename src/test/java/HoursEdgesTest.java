@@ -30,6 +30,7 @@ public final class HoursEdgesTest {
         dayNothingIsDone();
         undoNone();
         undoOfEach();
+        undoOfAllSeven();
         undoTwelve();
         undoSuchAsWereDone();
         undoHoursOfOneAndMore();
@@ -264,6 +265,23 @@ public final class HoursEdgesTest {
             two("15: undone: " + calls[i]).due("keep(0)", 1).due("line()", 2).undone(calls[i], due[i], 1);
         }
         two("15: undone: day()").due("keep(0)", 1).due("line()", 2).text("t9w01n3s1f19n1b0").undone("day()", 7, 1);
+    }
+
+    private static void undoOfAllSeven() {
+        Run r = new Run("15: all of CLIMBERS are as ahead of it").come("1;2;3;4;5;6;7").due("top(9)", 15).by("p");
+        r.live("s0b0n1s1b1n2s2b2n3s3b3n4s4b4n5s5b5n6s6b6n7", 21).live("s0s1s2s3s4s5s6n2", 8);
+        r.live("f31f42f53f64w11w22w33w44w55w66", 10);
+        int[] heights = {2, 4, 6, 5, 4, 3, 2};
+        for (int i = 0; i < 7; i++) {
+            r.due("climber(" + i + ", 1)", heights[i]).due("climber(" + i + ", 2)", i < 3 ? 1 : 2);
+            r.due("climber(" + i + ", 3)", i).due("climber(" + i + ", 4)", i < 6 ? i + 1 : 9);
+        }
+        r.text("n9b0t8").undone("day()", 3, 4).text("b0").undone("day()", 1, 4).due("keep(1)", 1).live("n9", 1);
+        r.due("again(1)", 1);
+        for (int i = 0; i < 7; i++) {
+            r.due("climber(" + i + ", 1)", heights[i]).due("climber(" + i + ", 2)", i < 3 ? 1 : 2);
+            r.due("climber(" + i + ", 3)", i).due("climber(" + i + ", 4)", i < 6 ? i + 1 : 9);
+        }
     }
 
     private static void undoTwelve() {

@@ -78,6 +78,7 @@ public final class KeptEdgesTest {
         for (int what = 0; what < due.length; what++) {
             r.still("count(" + what + ")", due[what]);
         }
+        r.live("n6", 1).still("count(13)", 1).still("count(15)", 4).live("n1", 1).still("count(15)", 0);
         int[] others = {-1, 16, Integer.MIN_VALUE, Integer.MAX_VALUE};
         for (int what : others) {
             r.still("count(" + what + ")", -1);

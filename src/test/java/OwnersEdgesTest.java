@@ -29,6 +29,8 @@ public final class OwnersEdgesTest {
         waysOneTo99();
         waysUpAndDown();
         asIfNothingElseWereDone();
+        byTopAsItIs();
+        fromThisHourOn();
         Run.finish();
     }
 
@@ -234,5 +236,29 @@ public final class OwnersEdgesTest {
     private static void asIfNothingElseWereDone() {
         Run r = new Run("Terms 2: asked as if nothing else were done").come("9;9").live("s0", 1).question("later(4)", 0);
         r.live("s1w11", 2).question("later(4)", 0).row(1, 1).question("later(5)", 1).row(2, 0).due("hours(5)", 1).row(2, 0);
+    }
+
+    /** By TOP 9 one of PACE 9 is at 3 6 9 6 3 0, by TOP 2 at 2 0. */
+    private static void byTopAsItIs() {
+        Run r = new Run("Terms 2: HOURS to come, by TOP 9").come("9;9").live("t9s0", 2).question("later(5)", 7).row(0, 1);
+        r.question("later(6)", 0).row(1, 0).question("when(0)", 6).row(94).question("shares(9)", 5).row(4, 0);
+        r.question("order(6)", 1).row(0).question("empty()", 6).row(0).question("high(0, 3)", 9).row(2, 0);
+        r.question("comes(0)", 6).row(1).question("changes(9)", 1).row(4, 0).question("ways(99)", 18).row(18, 0);
+        r.question("bides(0, 6)", 0).row(1).question("rivals(0, 6)", 0).row(0).question("goes(9)", 1).row(4);
+        r.question("ousts(0, 6)", 1).row(2).text("1").read("law()", 0).row(1, 1, 0, 0).text("0").read("law()", -1);
+        r.row(0, 1, 7, 0).question("strays(9, 5)", 0).row(0, 1);
+        Run t = new Run("Terms 2: HOURS to come, by TOP 2").come("9;9").live("t2s0", 2).question("later(1)", 7).row(0, 1);
+        t.question("later(2)", 0).row(1, 0).question("when(0)", 2).row(98).question("high(0, 1)", 2).row(2, 0);
+        t.question("ways(99)", 4).row(4, 0).question("bides(0, 2)", 0).row(1).question("goes(9)", 1).row(8);
+    }
+
+    /** By n, from HOUR 2 on, one goes 2 3 up, 3 3 down, and stands still in HOUR 0 and 7. */
+    private static void fromThisHourOn() {
+        Run r = new Run("Terms 2: HOURS to come, from this HOUR on").come("9;9").by("n").live("n2s0", 2);
+        r.question("high(0, 1)", 2).row(1, 0).question("high(0, 2)", 5).row(2, 0).question("high(0, 3)", 2).row(2, 0);
+        r.question("later(3)", 7).row(0, 1).question("later(4)", 0).row(1, 0).question("when(0)", 4).row(96);
+        r.question("comes(0)", 4).row(1).question("bides(0, 4)", 0).row(1).question("goes(9)", 1).row(6);
+        r.text("n").read("law()", 0).row(1, 1, 0, 0).due("hours(4)", 0).due("starts(1)", 1).question("ways(2)", 3);
+        r.row(0, 3).question("high(1, 2)", 3).row(1, 0);
     }
 }

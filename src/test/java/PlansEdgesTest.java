@@ -16,6 +16,7 @@ public final class PlansEdgesTest {
         bidesOthers();
         rivalsFewest();
         rivalsOfAsFewTheLeast();
+        rivalsNeverHeHimself();
         rivalsAbove99();
         rivalsWhoHaveAWay();
         rivalsByNone();
@@ -148,6 +149,12 @@ public final class PlansEdgesTest {
         // By k neither 1 nor 2 comes far without the other one: either of them may stay, and 1 is the least.
         Run r = new Run("28: of as few the least").come("0;0;0").live("s0b0n1s1s2", 5).by("k*3").question("later(4)", 2);
         r.question("rivals(0, 4)", 1).row(2).question("rivals(1, 4)", -2).question("rivals(2, 4)", 0).row(0);
+    }
+
+    private static void rivalsNeverHeHimself() {
+        // By k 1 would not come far either, if 0, the OWNER, stayed behind himself.
+        Run r = new Run("28: others").come("0;0").live("s0b0n1s0s1", 5).by("k*3").question("later(4)", 1);
+        r.question("rivals(0, 4)", 1).row(2);
     }
 
     private static void rivalsAbove99() {

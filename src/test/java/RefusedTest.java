@@ -38,7 +38,9 @@ public final class RefusedTest {
             kept(state);
             texts(state);
             questions(state);
+            questionsAmongOthers(state);
         }
+        questionsAtTopNine();
         noRoomLeft();
         Run.finish();
     }
@@ -177,6 +179,26 @@ public final class RefusedTest {
                 in(state, "Terms 2: Questions change nothing: " + call).asks(call);
             }
         }
+    }
+
+    /** What a question works with is nothing that the next one sees: all of them twice, in two orders. */
+    private static void questionsAmongOthers(String state) {
+        String[] calls = {"looks()", "shares(99)", "crowd(99)", "ways(99)", "rope()", "lawyers(0)", "rope()", "lawyers(1)",
+            "laws()", "looks()", "bend(20, 3)", "bend(2, 9)", "bend(9, 2)", "peaks(0, 60)", "bides(1, 60)", "rivals(2, 60)",
+            "goes(60)", "ousts(0, 60)", "years(3, 60)", "later(99)", "order(99)", "crowd(0)", "when(0)", "empty()",
+            "changes(99)", "high(0, 99)", "comes(0)", "stones(1)", "parties()", "asks()", "fits()", "rests(2)", "line()"};
+        String[] back = new String[calls.length];
+        for (int i = 0; i < calls.length; i++) {
+            back[i] = calls[calls.length - 1 - i];
+        }
+        in(state, "Terms 2: Questions change nothing, one behind the other").asksAll(calls);
+        in(state, "Terms 2: Questions change nothing, the other way round").asksAll(back);
+    }
+
+    private static void questionsAtTopNine() {
+        Run r = new Run("Terms 2: Questions, all over the mountain").come("0;2;4;8;9").live("t9s4s3s2s1s0n3w49", 8);
+        r.asksAll("crowd(99)", "crowd(0)", "rope()", "crowd(99)", "line()", "lawyers(1)", "rope()", "nearest()", "shares(99)",
+            "ways(99)", "shares(99)", "ways(9)", "crowd(0)", "rope()", "looks()", "laws()", "looks()");
     }
 
     private static void noRoomLeft() {

@@ -135,6 +135,27 @@ final class Run {
         return same(call, before, false);
     }
 
+    /** Each of these questions answers as on a new object behind the same calls, whatever was asked ahead of it. */
+    Run asksAll(String... questions) {
+        List<String> ahead = new ArrayList<>(calls);
+        for (String call : questions) {
+            asked++;
+            Look alone = new Look(ahead);
+            alone.asks(call, "count(11)", "row(0)", "row(1)", "row(2)", "row(3)", "row(6)");
+            StringBuilder got = new StringBuilder();
+            for (String look : new String[] {call, "count(11)", "row(0)", "row(1)", "row(2)", "row(3)", "row(6)"}) {
+                got.append(answer(look)).append(' ');
+            }
+            // An answer below 0 leaves the ROW of the question ahead of it.
+            boolean rowStays = got.charAt(0) == '-';
+            String due = alone.seen();
+            if (!(rowStays ? got.substring(0, 3).equals(due.substring(0, 3)) : got.toString().equals(due))) {
+                blame(call + " among others", got.toString(), due);
+            }
+        }
+        return this;
+    }
+
     /** The call reads THE TEXT and answers so; nothing but that THE TEXT is empty then is seen of it. */
     Run emptied(String call, long want) {
         List<String> withoutText = new ArrayList<>(calls);

@@ -21,6 +21,7 @@ public final class TermsEdgesTest {
         minusAheadOfAThing();
         numberOfThreeDigits();
         bracketsFourInOneAnother();
+        nothingIsLeftOfAnotherRule();
         stepsAsInts();
         stepsZeroToThree();
         letterU();
@@ -174,6 +175,9 @@ public final class TermsEdgesTest {
         steps(s, "2=3", 0);
         steps(s, "-1<0", 1);
         steps(s, "2+(3>2)", 3);
+        steps(s, "2+(2<2)", 2);
+        steps(s, "2+(2>2)", 2);
+        steps(s, "2+(2=3)", 2);
     }
 
     private static void comparisonsNotOneBehindTheOther() {
@@ -274,7 +278,9 @@ public final class TermsEdgesTest {
         refused(s, "1 2", 1);
         refused(s, "12p", 2);
         refused(s, "p1", 1);
+        refused(s, "1+p2", 3);
         refused(s, "(1)2", 3);
+        refused(s, "(1+p)2", 5);
     }
 
     private static void bracketsFourInOneAnother() {
@@ -295,6 +301,27 @@ public final class TermsEdgesTest {
         refused(s, "(1))", 3);
         refused(s, ")", 0);
         refused(s, "1(1)", 1);
+    }
+
+    private static void nothingIsLeftOfAnotherRule() {
+        String[] refused = {"-", "--", "(", "((((", "1+", "1-", "1<", "(1<", "1*-", "-(-", "1+(2*", "12+", "12x", "((((("};
+        int[] at = {1, 2, 1, 4, 2, 2, 2, 3, 3, 3, 5, 3, 2, 4};
+        for (int i = 0; i < refused.length; i++) {
+            Run r = new Run("5: behind " + refused[i]).come("8");
+            small(r.text(refused[i]).due("rule()", -1 - at[i]));
+            small(r.text(refused[i]).due("law()", -10000 - at[i]));
+        }
+        String[] taken = {"-3+3", "9-9", "-(1<2)", "((((1))))", "0-1+2-3+4-5", "--------2", "1<2", "123"};
+        for (String rule : taken) {
+            Run r = new Run("5: behind " + rule).come("8");
+            small(r.by(rule));
+            small(r.text(rule).due("law()", 0));
+        }
+    }
+
+    private static void small(Run r) {
+        r.by("2").due("climber(0, 5)", 2).by("1<2").due("climber(0, 5)", 1).by("((((3))))").due("climber(0, 5)", 3);
+        r.by("-1+3").due("climber(0, 5)", 2).by("3").due("climber(0, 5)", 3).due("rule()", 0).due("climber(0, 5)", 3);
     }
 
     private static void stepsAsInts() {
@@ -325,12 +352,14 @@ public final class TermsEdgesTest {
     private static void letterU() {
         Run r = new Run("Terms 1: u 1 if his WAY is up, else 0").come("1;1;1").by("u").live("s0s1b1", 3);
         r.due("climber(0, 5)", 1).due("climber(1, 5)", 0).due("climber(2, 5)", 0);
+        r.by("u+1").due("climber(0, 5)", 2).due("climber(1, 5)", 1).due("climber(2, 5)", 1);
     }
 
     private static void letterO() {
         Run r = new Run("Terms 1: o 1 if he is OWNER, else 0").come("1;1").by("o");
         r.due("climber(0, 5)", 0).due("climber(1, 5)", 0).live("s1b1n1", 3).due("climber(0, 5)", 0);
         r.due("climber(1, 5)", 1).live("s0b0n1", 3).due("climber(0, 5)", 1).due("climber(1, 5)", 0);
+        r.by("o+1").due("climber(0, 5)", 2).due("climber(1, 5)", 1);
     }
 
     private static void letterK() {
@@ -346,6 +375,8 @@ public final class TermsEdgesTest {
         r.by("b").due("climber(0, 5)", 0).live("b1", 1).due("climber(0, 5)", 1).due("climber(3, 5)", 0);
         r.due("climber(1, 5)", 0).live("b0b2b3", 3).due("climber(0, 5)", 3).due("climber(1, 5)", 1);
         r.due("climber(3, 5)", 1).due("climber(2, 5)", 0);
+        Run f = new Run("Terms 1: b, the first one below").come("1;3").by("p").live("s0s1n1b0", 4).by("b");
+        f.due("climber(1, 5)", 1).due("climber(0, 5)", 0);
     }
 
     private static void letterN() {

@@ -201,7 +201,7 @@ public final class WhoEdgesTest {
         // PACE 4 goes 0 by b 5 alone, PACE 9 goes 1: a 0, b 5, and c 1, 2 or 3.
         Run b = new Run("43: b 5").due("saw(4, 0)", 1).due("saw(9, 1)", 2).question("laws()", 3).row(0, 5, 1);
         Run o = new Run("43: b 1").due("saw(0, 0)", 1).due("saw(1, 1)", 2).due("saw(2, 2)", 3).question("laws()", 2);
-        o.row(0, 1, 2);
+        o.row(0, 1, 2).due("saw(3, 3)", 4).question("laws()", 1).row(0, 1, 3).question("looks()", 0).row(1);
     }
 
     private static void looksNoneFits() {
