@@ -6,6 +6,7 @@ import java.lang.reflect.Modifier;
 import java.nio.file.Files;
 import java.nio.file.Path;
 import java.util.Arrays;
+import java.util.NoSuchElementException;
 import java.util.Set;
 import java.util.TreeSet;
 import java.util.regex.Matcher;
@@ -52,6 +53,10 @@ public final class LanguageTest {
         for (Method method : LastDownOwns.class.getDeclaredMethods()) {
             if (!Modifier.isPrivate(method.getModifiers())) {
                 blame(!Modifier.isPublic(method.getModifiers()), "package-visible: " + method);
+                boolean mayThrow = method.getName().equals("climber") || method.getName().equals("row");
+                Class<?>[] thrown = method.getExceptionTypes();
+                blame(thrown.length != (mayThrow ? 1 : 0) || mayThrow && thrown[0] != NoSuchElementException.class,
+                    "what it says it throws: " + method);
                 is.add(method.getReturnType() + " " + method.getName()
                     + Arrays.toString(method.getParameterTypes()).replace("[", "(").replace("]", ")").replace(" ", ""));
             }
