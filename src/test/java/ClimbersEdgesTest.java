@@ -173,6 +173,12 @@ public final class ClimbersEdgesTest {
         Run r = new Run("5: refused, THE RULE stays").come("9").by("2").text("1+x").emptied("rule()", -3);
         r.due("climber(0, 5)", 2).text("3").read("law()", 0).due("climber(0, 5)", 2).text("1+").emptied("law()", -10002);
         r.due("climber(0, 5)", 2);
+        // HOURS, now and to come, go by THE RULE, not by what was read last.
+        Run h = new Run("5: HOURS by THE RULE").come("9").by("1").live("s0", 1).text("3").due("law()", 0).due("hours(1)", 7);
+        h.due("climber(0, 1)", 1).text("3").due("law()", 0).live("n1", 1).due("climber(0, 1)", 2).text("3-").due("rule()", -3);
+        h.due("hours(1)", 7).due("climber(0, 1)", 3).text("3x").due("rule()", -2).live("n1", 1).due("climber(0, 1)", 4);
+        h.text("3").due("law()", 0).question("later(5)", 7).question("later(6)", 0).question("bides(0, 6)", 0).row(1);
+        h.question("goes(9)", -2).question("years(0, 1)", 7).row(0, 1).question("high(0, 1)", 5);
     }
 
     private static void topTwoToNine() {

@@ -24,6 +24,8 @@ public final class TermsEdgesTest {
         nothingIsLeftOfAnotherRule();
         stepsAsInts();
         stepsZeroToThree();
+        letterP();
+        letterH();
         letterU();
         letterO();
         letterK();
@@ -347,6 +349,17 @@ public final class TermsEdgesTest {
         steps(s, "3", 3);
         steps(s, "4", 3);
         steps(s, "999", 3);
+    }
+
+    private static void letterP() {
+        Run r = new Run("Terms 1: p PACE").come("0;3;9").by("p").due("climber(0, 5)", 0).due("climber(1, 5)", 3);
+        r.by("p-7").due("climber(2, 5)", 2).due("sheet(2, 3, 8, 1)", 26).due("climber(0, 5)", 1).due("climber(2, 5)", 2);
+    }
+
+    private static void letterH() {
+        Run r = new Run("Terms 1: h HEIGHT").come("9;9;9").live("t9s0n1s1w29n2", 6).by("h").due("climber(2, 5)", 0);
+        r.by("h-7").due("climber(0, 5)", 2).due("climber(1, 5)", 0).by("h-5").due("climber(1, 5)", 1).live("f04", 1);
+        r.due("climber(0, 5)", 0).by("h-3").due("climber(0, 5)", 2).live("f09", 1).by("h+1").due("climber(0, 5)", 1);
     }
 
     private static void letterU() {

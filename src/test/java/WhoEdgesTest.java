@@ -18,6 +18,7 @@ public final class WhoEdgesTest {
         asksNoneFits();
         asksOfEqualOnesTheLeast();
         asksHighestOfEach();
+        asksOfThoseWhoFit();
         asksNeverBuilt();
         sawOthers();
         sawTen();
@@ -157,6 +158,12 @@ public final class WhoEdgesTest {
         new Run("40: HEIGHT 9").come("9;9").live("t9s0s1n3f01", 5).question("asks()", 39).row(1);
         new Run("40: HEIGHT 1").come("9;9").live("t9s0s1n3f08f09", 6).question("asks()", 31).row(1);
         new Run("40: WAIT 0").come("5;5").live("s0s1w11", 3).question("asks()", 40).row(1);
+    }
+
+    private static void asksOfThoseWhoFit() {
+        // 0 and 1 fit: PACES 3 and 7; PACES 5 and 9 of the others do not count.
+        new Run("40: the fewest such CLIMBERS").come("3;7;5;9").live("s0s1", 2).due("heard(2, 1)", 1).question("asks()", 4)
+            .row(1);
     }
 
     private static void asksNeverBuilt() {
