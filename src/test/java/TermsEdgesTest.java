@@ -114,7 +114,7 @@ public final class TermsEdgesTest {
         r.due("hours(2)", 1).due("climber(1, 4)", 2).due("count(7)", 1001);
     }
 
-    /** No run of 512 calls comes so far (a DAY has 26 at most); it is asked all the same, on one object. */
+    /** No run of 512 calls comes so far (each needs a setting out, and a DAY has fewer than 30); it is asked all the same, on one object. */
     private static void downsTo9999() {
         LastDownOwns x = new LastDownOwns();
         String seven = "s0s1s2s3s4s5s6n2";
